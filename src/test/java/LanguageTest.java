@@ -1,0 +1,141 @@
+import java.lang.reflect.Field;
+import java.lang.reflect.Method;
+import java.lang.reflect.Modifier;
+import java.nio.file.Files;
+import java.nio.file.Path;
+import java.util.ArrayList;
+import java.util.HashSet;
+import java.util.List;
+import java.util.Set;
+import java.util.TreeSet;
+import java.util.regex.Matcher;
+import java.util.regex.Pattern;
+
+/** The face of the document, and the rules of LANGUAGE.md that can be looked up in the file. */
+final class LanguageTest {
+    private static final Path SOURCE = Path.of("src/main/java/TurnedLock.java");
+    private static final String FACE = "row(II)I lay(III)I at(II)I tear(I)I copy(IIIII)I mean(I)I text(II)I "
+        + "put(III)I fault(I)I shed(I)I person(II)I mark(II)I flicks(II)I look(II)I vain(I)I undo(I)I keep(I)I "
+        + "on(I)I likely(I)I best()I wheel(II)I certain()I order(II)I tries()I within(I)I worth(I)I whose()I "
+        + "seen(II)I sights(I)I fits(I)I chance(I)I read(I)I who(II)I ways(III)I apart(II)I near(II)I lots(II)I "
+        + "asked()I upper()J lower()J count(I)I finding()I findings(I)I digest()J";
+    private static int wrong = 0;
+
+    public static void main(String[] args) throws Exception {
+        face();
+        constants();
+        classes();
+        words();
+        methods();
+        System.out.println(wrong + " rules broken");
+        if (wrong != 0) {
+            System.exit(1);
+        }
+    }
+
+    private static void must(boolean holds, String rule) {
+        if (!holds) {
+            wrong++;
+            System.out.println("broken: " + rule);
+        }
+    }
+
+    private static String shape(Method m) {
+        StringBuilder s = new StringBuilder(m.getName()).append('(');
+        for (Class<?> c : m.getParameterTypes()) {
+            s.append(c.descriptorString());
+        }
+        return s.append(')').append(m.getReturnType().descriptorString()).toString();
+    }
+
+    private static void face() {
+        Set<String> open = new TreeSet<>();
+        for (Method m : TurnedLock.class.getDeclaredMethods()) {
+            if (Modifier.isPublic(m.getModifiers())) {
+                open.add(shape(m));
+            } else {
+                must(Modifier.isPrivate(m.getModifiers()) || m.isSynthetic(), "1: private: " + m);
+            }
+        }
+        must(open.equals(new TreeSet<>(List.of(FACE.split(" ")))), "1: the face: " + open);
+        must(TurnedLock.class.getDeclaredConstructors().length == 1, "1: one constructor");
+        must(Modifier.isFinal(TurnedLock.class.getModifiers()), "1: final");
+    }
+
+    private static void constants() throws Exception {
+        Set<String> open = new TreeSet<>();
+        for (Field f : TurnedLock.class.getDeclaredFields()) {
+            if (Modifier.isPublic(f.getModifiers())) {
+                open.add(f.getName() + f.getInt(null));
+            } else {
+                must(Modifier.isPrivate(f.getModifiers()), "1: private: " + f);
+            }
+        }
+        must(open.equals(new TreeSet<>(List.of("BAD-1", "FULL-2", "FINDING-3", "STATE-4", "SPENT-6", "NONE-9"))),
+                "1: the constants: " + open);
+    }
+
+    private static void classes() {
+        Set<String> names = new HashSet<>();
+        for (String shape : FACE.split(" ")) {
+            names.add(shape.substring(0, shape.indexOf('(')));
+        }
+        List<Class<?>> all = new ArrayList<>(List.of(TurnedLock.class.getDeclaredClasses()));
+        must(all.size() <= 11, "11: twelve classes");
+        all.forEach(c -> must(Modifier.isStatic(c.getModifiers()) && !Modifier.isPublic(c.getModifiers())
+                && !Modifier.isProtected(c.getModifiers()), "1, 2: " + c));
+        all.forEach(c -> must(c.getDeclaredClasses().length == 0, "2: no class within " + c));
+        all.forEach(c -> must(List.of(c.getDeclaredMethods()).stream().noneMatch(m -> names.contains(m.getName())),
+                "1: a name of the face in " + c));
+        all.add(TurnedLock.class);
+        for (Class<?> c : all) {
+            int fields = 0;
+            for (Field f : c.getDeclaredFields()) {
+                boolean fixed = Modifier.isStatic(f.getModifiers());
+                must(!fixed || Modifier.isFinal(f.getModifiers()), "5: " + f);
+                fields += fixed ? 0 : 1;
+            }
+            must(fields <= 20, "11: fields of " + c);
+            for (Method m : c.getDeclaredMethods()) {
+                must(m.getParameterCount() <= 7, "11: parameters of " + m);
+                must(!Modifier.isPrivate(m.getModifiers()) || !names.contains(m.getName()), "1: " + m);
+            }
+        }
+    }
+
+    private static String code() throws Exception {
+        return Files.readString(SOURCE).replaceAll("(?s)/\\*.*?\\*/", "").replaceAll("//[^\n]*", "");
+    }
+
+    private static void words() throws Exception {
+        String code = code();
+        String[] none = {"throw", "throws", "try", "catch", "finally", "synchronized", "assert", "import", "package",
+            "System\\.(?!arraycopy)", "Math\\.\\w*Exact", "@", "->", "::", "hashCode", "toString", "equals",
+            "Object", "volatile", "native", "transient", "protected", "double", "float", "var"};
+        for (String word : none) {
+            String at = Character.isLetter(word.charAt(0)) ? "\\b" + word + (word.endsWith(")") ? "" : "\\b") : word;
+            must(!Pattern.compile(at).matcher(code).find(), "4, 6: " + word);
+        }
+        must(code.chars().allMatch(c -> c < 128), "4: signs");
+    }
+
+    /** Length of methods, by the lines between a method's head and the brace that ends it. */
+    private static void methods() throws Exception {
+        List<String> lines = Files.readAllLines(SOURCE);
+        Pattern head = Pattern.compile("^( {4}| {8})(?=[^ ])[\\w\\[\\] ]+\\([\\w\\[\\], ]*\\) \\{$");
+        int many = 0;
+        for (int i = 0; i < lines.size(); i++) {
+            Matcher m = head.matcher(lines.get(i));
+            if (m.matches() && !lines.get(i).matches(" *(if|for|while|switch|else).*")) {
+                many++;
+                int end = i;
+                while (end < lines.size() && !lines.get(end).equals(m.group(1) + "}")) {
+                    end++;
+                }
+                must(end - i < 60, "11: long: " + lines.get(i));
+            }
+            must(lines.get(i).length() <= 120, "a long line: " + (i + 1));
+        }
+        must(many > 80, "methods were not found: " + many);
+    }
+}
