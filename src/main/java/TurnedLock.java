@@ -40,27 +40,14 @@ public final class TurnedLock {
     // ---- 1 rows, texts, sheds
 
     public int row(int r, int n) {
-        Row row = among(rows, r);
-        if (row == null || n > ROW_MOST) {
-            return BAD;
-        }
-        if (n < 0) {
-            return found(SIZE);
-        }
-        row.make(n, 0);
-        return n;
+        return makeAnew(among(rows, r), n, 0);
     }
 
     public int lay(int r, int i, int v) {
         Row row = among(rows, r);
-        if (row == null) {
-            return BAD;
-        }
-        if (row.isMissing()) {
-            return found(NOTHING);
-        }
-        if (!row.has(i)) {
-            return found(BEYOND);
+        int refused = refusedPlace(row, i);
+        if (refused != 0) {
+            return refused;
         }
         tellNumber(row.places[i]);
         row.places[i] = v;
@@ -69,14 +56,9 @@ public final class TurnedLock {
 
     public int at(int r, int i) {
         Row row = among(rows, r);
-        if (row == null) {
-            return BAD;
-        }
-        if (row.isMissing()) {
-            return found(NOTHING);
-        }
-        if (!row.has(i)) {
-            return found(BEYOND);
+        int refused = refusedPlace(row, i);
+        if (refused != 0) {
+            return refused;
         }
         tellNumber(row.places[i]);
         return 1;
@@ -84,11 +66,9 @@ public final class TurnedLock {
 
     public int tear(int r) {
         Row row = among(rows, r);
-        if (row == null) {
-            return BAD;
-        }
-        if (row.isMissing()) {
-            return found(NOTHING);
+        int refused = refusedRow(row);
+        if (refused != 0) {
+            return refused;
         }
         row.size = MISSING;
         return 1;
@@ -115,11 +95,9 @@ public final class TurnedLock {
 
     public int mean(int r) {
         Row row = among(rows, r);
-        if (row == null) {
-            return BAD;
-        }
-        if (row.isMissing()) {
-            return found(NOTHING);
+        int refused = refusedRow(row);
+        if (refused != 0) {
+            return refused;
         }
         if (row.size == 0) {
             return found(NOUGHT);
@@ -129,27 +107,14 @@ public final class TurnedLock {
     }
 
     public int text(int t, int n) {
-        Row text = among(texts, t);
-        if (text == null || n > TEXT_MOST) {
-            return BAD;
-        }
-        if (n < 0) {
-            return found(SIZE);
-        }
-        text.make(n, BLANK);
-        return n;
+        return makeAnew(among(texts, t), n, BLANK);
     }
 
     public int put(int t, int i, int v) {
         Row text = among(texts, t);
-        if (text == null) {
-            return BAD;
-        }
-        if (text.isMissing()) {
-            return found(NOTHING);
-        }
-        if (!text.has(i)) {
-            return found(BEYOND);
+        int refused = refusedPlace(text, i);
+        if (refused != 0) {
+            return refused;
         }
         int was = text.places[i];
         text.places[i] = (byte) v;
@@ -158,22 +123,15 @@ public final class TurnedLock {
 
     public int fault(int t) {
         Row text = among(texts, t);
-        if (text == null) {
-            return BAD;
-        }
-        if (text.isMissing()) {
-            return found(NOTHING);
-        }
-        return reader.faultOf(text);
+        int refused = refusedRow(text);
+        return refused != 0 ? refused : reader.faultOf(text);
     }
 
     public int shed(int t) {
         Row text = among(texts, t);
-        if (text == null) {
-            return BAD;
-        }
-        if (text.isMissing()) {
-            return found(NOTHING);
+        int refused = refusedRow(text);
+        if (refused != 0) {
+            return refused;
         }
         if (reader.faultOf(text) != NONE) {
             return STATE;
@@ -406,7 +364,7 @@ public final class TurnedLock {
     // ---- 6 told looks
 
     public int fits(int r) {
-        int refused = refusedRow(r);
+        int refused = refusedTold(r);
         if (refused != 0) {
             return refused;
         }
@@ -417,7 +375,7 @@ public final class TurnedLock {
     }
 
     public int chance(int r) {
-        int refused = refusedRow(r);
+        int refused = refusedTold(r);
         if (refused != 0) {
             return refused;
         }
@@ -426,7 +384,7 @@ public final class TurnedLock {
     }
 
     public int read(int r) {
-        int refused = refusedRow(r);
+        int refused = refusedTold(r);
         if (refused != 0) {
             return refused;
         }
@@ -547,6 +505,34 @@ public final class TurnedLock {
         return i < 0 || i >= all.length ? null : all[i];
     }
 
+    private int makeAnew(Row row, int n, int filling) {
+        if (row == null || n > row.places.length) {
+            return BAD;
+        }
+        if (n < 0) {
+            return found(SIZE);
+        }
+        row.make(n, filling);
+        return n;
+    }
+
+    /** 0 if it is there, else what it is refused with. */
+    private int refusedRow(Row row) {
+        if (row == null) {
+            return BAD;
+        }
+        return row.isMissing() ? found(NOTHING) : 0;
+    }
+
+    /** 0 if there is such a place in it, else what it is refused with. */
+    private int refusedPlace(Row row, int i) {
+        int refused = refusedRow(row);
+        if (refused != 0) {
+            return refused;
+        }
+        return row.has(i) ? 0 : found(BEYOND);
+    }
+
     private int found(int which) {
         latestFinding = which;
         findingCounts[which]++;
@@ -585,8 +571,8 @@ public final class TurnedLock {
         }
     }
 
-    /** 0 if the ROW can be told LOOKS, else what it is refused with. */
-    private int refusedRow(int r) {
+    /** 0 if the ROW is one of told LOOKS, else what it is refused with. */
+    private int refusedTold(int r) {
         Row row = among(rows, r);
         if (row == null) {
             return BAD;
@@ -693,7 +679,6 @@ public final class TurnedLock {
         final int[] flickRow = new int[PERSONS_MOST];
 
         int faultOf(Row text) {
-            persons = 0;
             int place = behindBlanks(text, 0);
             if (signAt(text, place) != 'w') {
                 return place;
@@ -800,8 +785,8 @@ public final class TurnedLock {
 
         int turnBetween(int code, int seen) {
             int turn = 0;
-            for (int w = 0; w < amount; w++) {
-                int up = notchOf(seen, w) - notchOf(code, w);
+            for (int w = 0; w < amount && isSetting(code) && isSetting(seen); w++) {
+                int up = notchRow[WHEELS_MOST * seen + w] - notchRow[WHEELS_MOST * code + w];
                 turn = turn * notches + (up < 0 ? up + notches : up);
             }
             return turn;
@@ -809,9 +794,9 @@ public final class TurnedLock {
 
         int turned(int code, int turn) {
             int seen = 0;
-            for (int w = 0; w < amount; w++) {
-                int notch = notchOf(code, w) + notchOf(turn, w);
-                seen = seen * notches + (notch >= notches ? notch - notches : notch);
+            for (int w = 0; w < amount && isSetting(code) && isSetting(turn); w++) {
+                int notch = notchRow[WHEELS_MOST * code + w] + notchRow[WHEELS_MOST * turn + w];
+                seen = seen * notches + (notch < notches ? notch : notch - notches);
             }
             return seen;
         }
@@ -1266,6 +1251,11 @@ public final class TurnedLock {
 
         /** Aside comes, for what may be SEEN, what all CODES weigh there together, or the likeliest. */
         void gather(Person person, boolean together) {
+            if (person instanceof Blind) {
+                // Every CODE comes to every SETTING once: no need to turn 216 by 216 times.
+                setAll(aside, together ? sumOf(weights) : weights[likeliest(weights)]);
+                return;
+            }
             setAll(aside, 0);
             for (int code = 0; code < wheels.settings; code++) {
                 for (int i = 0; i < person.listed && weights[code] > 0; i++) {

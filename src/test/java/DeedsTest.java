@@ -108,6 +108,9 @@ final class DeedsTest {
         x.look(1, 0);
         x.undo(0);
         x.flicks(1, 1);
+        x.vain(4);
+        x.look(1, 0);
+        x.look(0, 2);
         CHECK.due("19 on", x.on(0), 2);
         CHECK.due("19 as it was", x.digest(), then);
         CHECK.told(x, "19 flicks as they were", x.person(1, 1), 1, 3);

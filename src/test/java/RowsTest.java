@@ -44,6 +44,9 @@ final class RowsTest {
         x.lay(5, 39, 8);
         x.row(5, 40);
         CHECK.told(x, "2 zeros again", x.at(5, 39), 1, 0);
+        x.lay(5, 0, 8);
+        x.row(5, 40);
+        CHECK.told(x, "2 the first, too", x.at(5, 0), 1, 0);
         CHECK.bad("2", x.row(-1, 1), x.row(6, 1), x.row(0, 41), x.row(Integer.MAX_VALUE, 1),
                 x.row(0, Integer.MAX_VALUE), x.row(-1, -1), x.row(6, Integer.MIN_VALUE));
         CHECK.due("2 no finding by BAD", x.finding(), 0);

@@ -22,6 +22,9 @@ final class ShedsTest {
         CHECK.due("8 a blank", x.put(3, 59, 65), 1032);
         CHECK.due("8 anew", x.text(3, 60), 60);
         CHECK.due("8 blanks again", x.put(3, 59, 65), 1032);
+        x.put(3, 0, 65);
+        x.text(3, 1);
+        CHECK.due("8 the first is a blank, too", x.put(3, 0, 65), 1032);
         CHECK.bad("8", x.text(-1, 1), x.text(4, 1), x.text(0, 61), x.text(4, -1),
                 x.text(0, Integer.MAX_VALUE));
         CHECK.finding(x, "8 text(0, -1)", () -> x.text(0, -1), SIZE);
@@ -106,19 +109,24 @@ final class ShedsTest {
             CHECK.due("11 count(" + what + ")", x.count(what), counts[what]);
         }
         x.look(0, 3);
-        x.keep(1);
+        for (int k = 0; k < 3; k++) {
+            x.keep(k);
+        }
         Check.write(x, 0, "w25 e4");
         CHECK.due("11 a fault", x.shed(0), TurnedLock.STATE);
         CHECK.due("11 refused: the persons stay", x.count(0), 3);
         CHECK.due("11 refused: deeds stay", x.count(5), 1);
-        CHECK.due("11 refused: kept ones stay", x.count(9), 1);
+        CHECK.due("11 refused: kept ones stay", x.count(9), 3);
         Check.write(x, 0, "w14 b2");
         CHECK.due("11 anew", x.shed(0), 1);
         int[] anew = {1, 1, 4, 4, 4, 0, 0, 0, 2, 0};
         for (int what = 0; what < anew.length; what++) {
             CHECK.due("11 anew count(" + what + ")", x.count(what), anew[what]);
         }
-        CHECK.finding(x, "11 kept ones go", () -> x.on(1), NOTHING);
+        for (int k = 0; k < 3; k++) {
+            int place = k;
+            CHECK.finding(x, "11 kept ones go", () -> x.on(place), NOTHING);
+        }
     }
 
     private static void person() {
@@ -184,6 +192,8 @@ final class ShedsTest {
         CHECK.told(x, "14 they are", x.person(0, 1), 1, 3);
         CHECK.told(x, "14 ways by them", x.person(0, 2), 1, 6);
         CHECK.due("14 ways by them", x.ways(0, 0, 3), 2);
+        CHECK.due("14 the mark by them", x.mark(0, 1), 4);
+        CHECK.chance(x, "14 the worth by them", x.worth(0), 1, 3);
         CHECK.due("14 the same again", x.flicks(0, 3), 3);
         CHECK.bad("14", x.flicks(0, 0), x.flicks(0, 4), x.flicks(2, 1), x.flicks(-1, 1));
         x.vain(0);

@@ -93,20 +93,18 @@ final class WhoTest {
         CHECK.due("38 the last seed", x.lots(1, 2147483646) >= 0 ? 1 : 0, 1);
     }
 
-    /** Seed 1: 48271, 182605794, 1291394886, 1914720637, 2078669041: the well-known row. */
+    /** Seed 1: 48271, 182605794, 1291394886, 1914720637, 2078669041, 407355683, 1105902161: well known. */
     private static void byHand() {
-        TurnedLock x = Check.shedOf("w14 e2 o2 e2");
-        int code = x.lots(2, 1);
-        CHECK.due("38 the code", code, 48271 % 4);
-        // The code is 3; persons and ways by 182605794, 1291394886; 1914720637, 2078669041.
-        int first = 182605794 / 16 % 3;
-        int second = 1914720637 / 16 % 3;
-        int[] sights = {0, 1, 1, 2};
-        int one = sights[1291394886 / 32 % 4];
-        int two = sights[2078669041 / 32 % 4];
-        TurnedLock y = Check.shedOf("w14 e2 o2 e2");
-        y.look(first, one);
-        y.look(second, two);
+        TurnedLock x = Check.shedOf("w16 p3 e3 b1");
+        CHECK.due("38 the code", x.lots(3, 1), 48271 % 6);
+        // The code is 1. What the ways of each bring, lesser ones ahead:
+        int[][] sights = {{2, 3, 4}, {0, 2, 3, 4, 4, 5}, {0, 1, 2, 3, 4, 5}};
+        int[] lots = {182605794, 1291394886, 1914720637, 2078669041, 407355683, 1105902161};
+        TurnedLock y = Check.shedOf("w16 p3 e3 b1");
+        for (int i = 0; i < lots.length; i += 2) {
+            int p = lots[i] / 16 % 3;
+            y.look(p, sights[p][lots[i + 1] / 32 % sights[p].length]);
+        }
         CHECK.due("38 the looks", x.digest(), y.digest());
     }
 }
