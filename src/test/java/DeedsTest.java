@@ -109,8 +109,7 @@ final class DeedsTest {
         x.undo(0);
         x.flicks(1, 1);
         x.vain(4);
-        x.look(1, 0);
-        x.look(0, 2);
+        x.vain(0);
         CHECK.due("19 on", x.on(0), 2);
         CHECK.due("19 as it was", x.digest(), then);
         CHECK.told(x, "19 flicks as they were", x.person(1, 1), 1, 3);

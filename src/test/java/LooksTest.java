@@ -79,6 +79,9 @@ final class LooksTest {
         Check.lay(x, 0, 0, 7, 0, 7, 0, 7, 0, 7, 0, 7, 0, 7);
         CHECK.told(x, "31 six looks", x.fits(0), 5, 6);
         CHECK.due("31 no deed more", x.count(5), 1);
+        TurnedLock one = Check.shedOf("w14 p1");
+        Check.lay(one, 0, 0, 0);
+        CHECK.told(one, "31 the last code alone", one.fits(0), 1, 3);
     }
 
     private static void chance() {
