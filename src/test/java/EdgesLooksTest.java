@@ -48,6 +48,12 @@ final class EdgesLooksTest {
         e.due("vain(0) = 3", "vain(1) = 2", "vain(2) = 1", "whose() = 0 asked 0");
     }
 
+    @Says("The PERSON whose LOOK is worth most so (the first);")
+    static void promise28_byLittle(Edge e) {
+        e.shed("w14 p3 p2").due("vain(0) = 3", "vain(1) = 2", "worth(0) = 1 told 2/3", "worth(1) = 1 told 3/4");
+        e.due("whose() = 1 asked 0").shed("w14 p2 p3").due("vain(0) = 3", "vain(1) = 2", "whose() = 0 asked 1");
+    }
+
     @Says("STATE: no PERSONS.")
     static void promise28_state(Edge e) {
         e.fresh().due("whose() = STATE").text(0, "w14p1").due("whose() = STATE", "shed(0) = 1",
@@ -91,6 +97,8 @@ final class EdgesLooksTest {
                 "sights(1) = 3 asked 2");
         e.due("undo(0) = 1", "look(0, 2) = 1", "sights(1) = 3 asked 3", "sights(0) = 1 asked 2");
         e.shed("w36 b1 p3").due("sights(0) = 216 asked 0", "sights(1) = 216 asked 0");
+        // 1 or 2: to 2, 3 or to 3, 0.
+        e.shed("w14 p2").due("look(0, 3) = 2", "sights(0) = 3 asked 3");
         e.shed("w14 e1").due("vain(0) = 3", "vain(2) = 2", "sights(0) = 2 asked 0", "vain(1) = 1",
                 "sights(0) = 2 asked 0");
     }

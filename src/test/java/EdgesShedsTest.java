@@ -84,6 +84,17 @@ final class EdgesShedsTest {
         e.due("fault(3) = 58", "put(3, 59, 32) = 1120", "fault(3) = 58", "put(3, 58, 119) = 1120", "fault(3) = 59");
     }
 
+    @Says("A FAULT of a TEXT;")
+    static void promise10_eachItem(Edge e) {
+        String[] signs = {"w04p1", "w44p1", "w13p1", "w17p1", " w17p1", "w14q1", "w14 p0", "w14 p4", "w14p1p1p1p1p1",
+            "w14p1p1p1p1p1p1", "w14p1p1p1p1p1 x", "w14", "w36l3", "w14a1"};
+        int none = TurnedLock.NONE;
+        int[] due = {1, 1, 2, 2, 3, 3, 5, 5, none, 13, 14, 3, none, none};
+        for (int i = 0; i < signs.length; i++) {
+            e.fresh().text(1, signs[i]).due("fault(1) = " + due[i]);
+        }
+    }
+
     @Says("NONE: there is none.")
     static void promise10_none(Edge e) {
         e.fresh().text(2, "w14p1").due("fault(2) = NONE", "count(0) = 0", "put(2, 4, 52) = 1049", "fault(2) = 4");
@@ -116,6 +127,40 @@ final class EdgesShedsTest {
         e.each("on(%d) = NOTHING", 0, 1, 2).each("likely(%d) = 1 told 1/16", 0, 1, 2, 15);
         e.due("person(0, 1) = 1 asked 1", "person(1, 3) = 1 asked 0", "undo(0) = 0", "undo(1) = BAD",
                 "flicks(1, 1) = 2");
+    }
+
+    @Says("A SHED by a TEXT")
+    static void promise11_behindAnother(Edge e) {
+        for (String signs : new String[] {"w14 a1 l1 o1 e1 b1", "w24 a1 l1 o1 e1 p1", "w15 l2 a2 b1", "w26 o3"}) {
+            TurnedLock x = Check.shedOf("w36 b3 o3 l3 a3 e3");
+            x.look(1, 129);
+            x.keep(0);
+            Check.write(x, 3, signs);
+            x.shed(3);
+            TurnedLock alone = Check.shedOf(signs);
+            e.check(signs + " as on a new object", x.digest(), alone.digest());
+            e.check("PERSONS of " + signs, personsOf(x), personsOf(alone));
+        }
+    }
+
+    /** All that is told of the PERSONS of an object, in one number. */
+    private static long personsOf(TurnedLock x) {
+        long h = x.whose();
+        for (int p = 0; p < x.count(0); p++) {
+            for (int what = 0; what <= 2; what++) {
+                h = 31 * (31 * h + x.person(p, what)) + x.asked();
+            }
+            for (int kind = 1; kind <= 5; kind++) {
+                h = 31 * h + x.mark(p, kind);
+            }
+            h = 31 * (31 * (31 * h + x.worth(p)) + x.upper()) + x.lower();
+            h = 31 * (31 * h + x.sights(p)) + x.asked();
+            for (int s = 0; s < x.count(3); s++) {
+                h = 31 * (31 * h + x.ways(p, 0, s)) + x.ways(p, s, 1);
+                h = 31 * (31 * (31 * h + x.seen(p, s)) + x.upper()) + x.lower();
+            }
+        }
+        return h;
     }
 
     @Says("A SHED by a TEXT")
@@ -254,6 +299,21 @@ final class EdgesShedsTest {
         e.due("ways(1, 0, 3) = 0", "worth(1) = 1 told 1/2", "flicks(1, 3) = 1", "ways(1, 0, 3) = 2",
                 "worth(1) = 1 told 1/3");
         e.due("look(1, 0) = 5").shed("w14 b1").due("flicks(0, 3) = 1", "person(0, 2) = 1 asked 4");
+    }
+
+    @Says("FLICKS of a PERSON are v (1 .. 3): what they were.")
+    static void promise14_asIfFromTheFirst(Edge e) {
+        for (String wheels : new String[] {"w14 ", "w15 ", "w24 ", "w26 ", "w34 "}) {
+            for (int each = 0; each < 6 * 9; each++) {
+                char letter = "peabol".charAt(each / 9);
+                int from = 1 + each / 3 % 3;
+                int to = 1 + each % 3;
+                TurnedLock x = Check.shedOf(wheels + letter + from);
+                e.check("flicks(0, " + to + ")", x.flicks(0, to), from);
+                TurnedLock due = Check.shedOf(wheels + letter + to);
+                e.check(wheels + letter + from + " with FLICKS " + to, personsOf(x), personsOf(due));
+            }
+        }
     }
 
     @Says("BAD; STATE: there are DEEDS.")

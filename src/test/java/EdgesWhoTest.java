@@ -197,7 +197,8 @@ final class EdgesWhoTest {
     static void promise38_anew(Edge e) {
         e.shed("w14 p1 b1").due("lots(3, 5) = 3");
         long due = e.digest();
-        e.shed("w14 p1 b1").due("keep(1) = 0");
+        e.shed("w14 p1 b1").due("vain(3) = 3", "look(0, 1) = 1", "lots(3, 5) = 3");
+        e.check("as on a new one", e.digest(), due).shed("w14 p1 b1").due("keep(1) = 0");
         for (int i = 0; i < 15; i++) {
             e.due("look(1, 0) = 4");
         }
