@@ -784,8 +784,11 @@ public final class TurnedLock {
         }
 
         int turnBetween(int code, int seen) {
+            if (!isSetting(code) || !isSetting(seen)) {
+                return 0;
+            }
             int turn = 0;
-            for (int w = 0; w < amount && isSetting(code) && isSetting(seen); w++) {
+            for (int w = 0; w < amount; w++) {
                 int up = notchRow[WHEELS_MOST * seen + w] - notchRow[WHEELS_MOST * code + w];
                 turn = turn * notches + (up < 0 ? up + notches : up);
             }
@@ -793,8 +796,11 @@ public final class TurnedLock {
         }
 
         int turned(int code, int turn) {
+            if (!isSetting(code) || !isSetting(turn)) {
+                return 0;
+            }
             int seen = 0;
-            for (int w = 0; w < amount && isSetting(code) && isSetting(turn); w++) {
+            for (int w = 0; w < amount; w++) {
                 int notch = notchRow[WHEELS_MOST * code + w] + notchRow[WHEELS_MOST * turn + w];
                 seen = seen * notches + (notch < notches ? notch : notch - notches);
             }

@@ -14,6 +14,7 @@ import java.util.regex.Pattern;
 /** The face of the document, and the rules of LANGUAGE.md that can be looked up in the file. */
 final class LanguageTest {
     private static final Path SOURCE = Path.of("src/main/java/TurnedLock.java");
+    private static final Path DOCUMENT = Path.of("../shared/DOC.md");
     private static final String FACE = "row(II)I lay(III)I at(II)I tear(I)I copy(IIIII)I mean(I)I text(II)I "
         + "put(III)I fault(I)I shed(I)I person(II)I mark(II)I flicks(II)I look(II)I vain(I)I undo(I)I keep(I)I "
         + "on(I)I likely(I)I best()I wheel(II)I certain()I order(II)I tries()I within(I)I worth(I)I whose()I "
@@ -23,6 +24,7 @@ final class LanguageTest {
 
     public static void main(String[] args) throws Exception {
         face();
+        faceAsWritten();
         constants();
         classes();
         words();
@@ -60,6 +62,29 @@ final class LanguageTest {
         must(open.equals(new TreeSet<>(List.of(FACE.split(" ")))), "1: the face: " + open);
         must(TurnedLock.class.getDeclaredConstructors().length == 1, "1: one constructor");
         must(Modifier.isFinal(TurnedLock.class.getModifiers()), "1: final");
+    }
+
+    /** Every line of the document's face stands in the file, the names of what is told too. */
+    private static void faceAsWritten() throws Exception {
+        if (!Files.exists(DOCUMENT)) {
+            System.out.println("there is no " + DOCUMENT + " here: nothing to hold the face against");
+            return;
+        }
+        Set<String> written = new HashSet<>();
+        Files.readAllLines(SOURCE).forEach(line -> written.add(line.trim()));
+        String document = Files.readString(DOCUMENT);
+        int from = document.indexOf("```java", Math.max(0, document.indexOf("## The public face")));
+        int to = document.indexOf("```", from + 3);
+        must(from >= 0 && to > from, "1: the document's face was not found");
+        int many = 0;
+        for (String line : document.substring(Math.max(0, from), Math.max(0, to)).split("\n")) {
+            String due = line.trim().replaceAll("\\);$", ") {");
+            if (due.startsWith("public ")) {
+                many++;
+                must(written.contains(due), "1: the face as the document writes it: " + due);
+            }
+        }
+        must(many == FACE.split(" ").length + 3, "1: lines of the document's face: " + many);
     }
 
     private static void constants() throws Exception {

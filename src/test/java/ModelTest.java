@@ -9,6 +9,8 @@ import java.util.Random;
 final class ModelTest {
     private static final int RUNS = 80;
     private static final int CALLS = 400;
+    private static final int LONG_RUNS = 40;
+    private static final int USED = 512;
     private static final int[] EDGES = {-1, 0, 1, 2, 3, 4, 5, 6, 9, 10, 16, 40, 41, 60, 61, 215, 216, 217,
         Integer.MAX_VALUE, Integer.MIN_VALUE, 2147483646};
 
@@ -42,6 +44,37 @@ final class ModelTest {
             }
         }
         System.out.println(RUNS + " runs of drawn calls are answered as the model answers");
+        for (int run = 0; run < LONG_RUNS; run++) {
+            new ModelTest(1000 + run).useUp(calls);
+        }
+        System.out.println(LONG_RUNS + " runs of just " + USED + " calls are answered so to the last");
+    }
+
+    /** As many calls as an object is used for, with none between them that only looks; the last tells of all. */
+    private void useUp(List<Method> calls) throws Exception {
+        while (story.size() < USED - 1) {
+            boolean mayWrite = story.size() < USED - 100;
+            if (mayWrite && (story.isEmpty() || random.nextInt(80) == 0)) {
+                writeText();
+            } else if (mayWrite && random.nextInt(20) == 0) {
+                writePairs();
+            } else {
+                drawn(calls.get(random.nextInt(calls.size())));
+            }
+        }
+        ask(TurnedLock.class.getMethod("digest"), new Object[0]);
+        if (story.size() != USED) {
+            System.out.println("a run of " + story.size() + " calls");
+            System.exit(1);
+        }
+    }
+
+    private long drawn(Method m) throws Exception {
+        Object[] args = new Object[m.getParameterCount()];
+        for (int a = 0; a < args.length; a++) {
+            args[a] = argument(m.getName(), a);
+        }
+        return ask(m, args);
     }
 
     private boolean holds(List<Method> calls, int[] answered) throws Exception {
@@ -54,15 +87,10 @@ final class ModelTest {
             }
             int c = random.nextInt(calls.size());
             Method m = calls.get(c);
-            Object[] args = new Object[m.getParameterCount()];
-            for (int a = 0; a < args.length; a++) {
-                args[a] = argument(m.getName(), a);
-            }
             if (m.getName().equals("shed") && random.nextInt(3) != 0) {
                 continue;
             }
-            long got = ask(m, args);
-            answered[c] += got >= 0 ? 1 : 0;
+            answered[c] += drawn(m) >= 0 ? 1 : 0;
             if (!alike()) {
                 return false;
             }
