@@ -6,7 +6,9 @@ import java.nio.file.Path;
 import java.util.ArrayList;
 import java.util.HashSet;
 import java.util.List;
+import java.util.Map;
 import java.util.Set;
+import java.util.TreeMap;
 import java.util.TreeSet;
 import java.util.regex.Matcher;
 import java.util.regex.Pattern;
@@ -28,7 +30,7 @@ final class LanguageTest {
         constants();
         classes();
         words();
-        methods();
+        depths(methods());
         System.out.println(wrong + " rules broken");
         if (wrong != 0) {
             System.exit(1);
@@ -142,25 +144,55 @@ final class LanguageTest {
             must(!Pattern.compile(at).matcher(code).find(), "4, 6: " + word);
         }
         must(code.chars().allMatch(c -> c < 128), "4: signs");
+        for (String line : Files.readAllLines(SOURCE)) {
+            must(line.length() <= 120, "a long line: " + line);
+        }
     }
 
-    /** Length of methods, by the lines between a method's head and the brace that ends it. */
-    private static void methods() throws Exception {
-        List<String> lines = Files.readAllLines(SOURCE);
-        Pattern head = Pattern.compile("^( {4}| {8})(?=[^ ])[\\w\\[\\] ]+\\([\\w\\[\\], ]*\\) \\{$");
+    /** What each name of a method or constructor calls, by name: more than is called, if names are alike. */
+    private static Map<String, Set<String>> methods() throws Exception {
+        List<String> lines = List.of(code().split("\n"));
+        Pattern head = Pattern.compile("^( {4}| {8})(?:[\\w\\[\\]]+ )*(\\w+)\\([\\w\\[\\], ]*\\) \\{$");
+        Map<String, Set<String>> calls = new TreeMap<>();
         int many = 0;
         for (int i = 0; i < lines.size(); i++) {
             Matcher m = head.matcher(lines.get(i));
-            if (m.matches() && !lines.get(i).matches(" *(if|for|while|switch|else).*")) {
+            if (m.matches() && !lines.get(i).matches(" *(if|for|while|switch|else) .*")) {
                 many++;
                 int end = i;
                 while (end < lines.size() && !lines.get(end).equals(m.group(1) + "}")) {
                     end++;
                 }
                 must(end - i < 60, "11: long: " + lines.get(i));
+                Matcher call = Pattern.compile("\\b(\\w+)\\(").matcher(String.join("\n", lines.subList(i + 1, end)));
+                Set<String> called = calls.computeIfAbsent(m.group(2), name -> new TreeSet<>());
+                call.results().forEach(found -> called.add(found.group(1)));
             }
-            must(lines.get(i).length() <= 120, "a long line: " + (i + 1));
         }
-        must(many > 80, "methods were not found: " + many);
+        must(many > 120, "methods were not found: " + many);
+        return calls;
+    }
+
+    private static void depths(Map<String, Set<String>> calls) {
+        int most = 0;
+        for (String name : calls.keySet()) {
+            most = Math.max(most, depth(name, calls, new ArrayList<>()));
+        }
+        System.out.println("calls go " + most + " deep at most");
+        must(most > 4 && most <= 8, "11: calls go so deep: " + most);
+    }
+
+    private static int depth(String name, Map<String, Set<String>> calls, List<String> open) {
+        if (open.contains(name)) {
+            must(false, "8: it calls itself: " + open + " " + name);
+            return 0;
+        }
+        open.add(name);
+        int below = 0;
+        for (String called : calls.get(name)) {
+            below = Math.max(below, calls.containsKey(called) ? depth(called, calls, open) : 0);
+        }
+        open.remove(open.size() - 1);
+        return below + 1;
     }
 }
